@@ -81,6 +81,7 @@ public final class ChangesTest {
         Check.due("drift(0)", SoupWall.OUTSIDE, x.drift(0));
         Check.due("drift(100)", SoupWall.OUTSIDE, x.drift(100));
         Check.holds("refused drifts change nothing", before.equals(Check.allOf(x)));
+        Check.holds("drift(99)", x.drift(99) >= 0);
         Check.due("no wall", SoupWall.NOT, new SoupWall().drift(1));
         Check.due("OUTSIDE ahead of NOT", SoupWall.OUTSIDE, new SoupWall().drift(0));
         Check.due("no columns", SoupWall.NOT, Check.wallOf("coin 1 20 3;").drift(1));

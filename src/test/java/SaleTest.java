@@ -177,13 +177,15 @@ public final class SaleTest {
         Check.due("damp(10)", SoupWall.OUTSIDE, x.damp(10));
         Check.due("damp(-1)", SoupWall.OUTSIDE, x.damp(-1));
         Check.due("damp(0)", 9, x.damp(0));
+        Check.due("damp(0) again", 0, x.damp(0));
         Check.due("told(7)", 0, x.told(7));
         Check.due("wear(9)", 0, x.wear(9));
         Check.due("wear(10)", SoupWall.OUTSIDE, x.wear(10));
         Check.due("wear(-1)", SoupWall.OUTSIDE, x.wear(-1));
         Check.due("coin(0, 2)", 11, x.coin(0, 2));
         Check.due("worn too light", SoupWall.NOT, x.buy(0, 0, 7));
-        Check.due("wear(5)", 9, x.wear(5));
+        Check.due("wear(0)", 9, x.wear(0));
+        Check.due("wear(5)", 0, x.wear(5));
         Check.due("just heavy enough", 0, x.buy(0, 0, 7));
         Check.due("damp and wear work without a wall", 0, new SoupWall().wear(3));
     }

@@ -10,6 +10,7 @@ public final class TextTest {
         clashes();
         leastFaultOfAByte();
         whatAWallDoes();
+        wallBehindWall();
         whatAFaultLeaves();
         Check.finish();
     }
@@ -65,6 +66,12 @@ public final class TextTest {
         bad("Coin 1 20 3;", 1, 0);
         bad("coiN 1 20 3;", 1, 0);
         bad("coinslug 1;", 1, 0);
+        bad("coina 1 20 3;", 1, 0);
+        bad("coinz 1 20 3;", 1, 0);
+        bad("coin` 1 20 3;", 1, 4);
+        bad("coin{ 1 20 3;", 1, 4);
+        bad("coin 1/ 20 3;", 1, 6);
+        bad("coin 1: 20 3;", 1, 6);
         bad(";", 1, 0);
         bad("slug 5;;", 1, 7);
         bad("5;", 1, 0);
@@ -133,6 +140,8 @@ public final class TextTest {
         bad("column 1 5 6 1;kick 0 lrlrlrl;", 4, 22);
         bad("column 1 5 6 1;kick 0 lrx;", 4, 22);
         bad("column 1 5 6 1;kick 0 coin", 4, 22);
+        bad("column 1 5 6 1;kick 0 la;", 4, 22);
+        bad("column 1 5 6 1;kick 0 zr;", 4, 22);
     }
 
     private static void leastFaultOfAByte() {
@@ -168,6 +177,31 @@ public final class TextTest {
         Check.due("the seed stays", 77, x.seed(0));
         Check.due("wall() of no text", 0, x.wall());
         Check.due("columns of no text", 0, x.told(1));
+    }
+
+    /** Each wall is like that of a new object, however many came ahead of it. */
+    private static void wallBehindWall() {
+        String full = "coin 5 30 60;coin 6 31 60;column 3 20 40 9;column 4 20 40 9;slug 33;slug 34;kick 0 rr;kick 1 r;";
+        String small = "coin 5 30 2;column 3 20 40 9;";
+        String fresh = Check.allOf(Check.wallOf(small));
+        SoupWall x = new SoupWall();
+        for (int i = 0; i < 4; i++) {
+            Check.feed(x, full);
+            Check.due("wall() of the full one", 2, x.wall());
+            x.damp(9);
+            x.wear(1);
+            x.buy(0, 0, 2);
+            x.buy(1, 1, 2);
+            x.kick(0, 1);
+            Check.feed(x, i % 2 == 0 ? "coin 5 30 60;coin 5 30 60;column 3 20 40 9;kick 0 rrr;slug" : "");
+            x.wall();
+            Check.feed(x, small);
+            Check.due("wall() of the small one", 1, x.wall());
+            Check.holds("it is like a new one", fresh.equals(Check.allOf(x)));
+            x.damp(9);
+            x.buy(0, 0, 2);
+            Check.due("its rhythm is l again", 1, x.kick(0, 0));
+        }
     }
 
     private static void whatAFaultLeaves() {

@@ -248,6 +248,9 @@ public final class TriedTest {
         x.wire(1, 2);
         Check.due("below 0", -9, x.cheat(1));
         Check.due("none above 0", SoupWall.NONE, x.cheats());
+        x.price(1, 2);
+        Check.due("1 is above 0", 1, x.cheats());
+        x.price(1, 12);
         x.wire(2, 0);
         Check.due("cheat(2)", 4, x.cheat(2));
         Check.due("cheats()", 2, x.cheats());
