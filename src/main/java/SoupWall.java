@@ -447,7 +447,7 @@ public final class SoupWall {
     }
 
     public int fits(int m, int i) {
-        if (m < 1 || m > MOST_RHYTHM || i < NONE) {
+        if (m < 1 || m > MOST_RHYTHM) {
             return OUTSIDE;
         }
         int found = 0;

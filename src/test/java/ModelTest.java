@@ -97,7 +97,7 @@ public final class ModelTest {
             case "attempt0": return random.nextInt(256);
             case "attempt1": return 1 + random.nextInt(8);
             case "fits0": return 1 + random.nextInt(6);
-            case "fits1": return random.nextInt(12) - 1;
+            case "fits1": return random.nextInt(14) - 3;
             case "seed0": return random.nextInt(Integer.MAX_VALUE);
             case "feed0": return 1 + random.nextInt(8);
             default: return random.nextInt(roomy ? 3 : 5);

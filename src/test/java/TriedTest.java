@@ -285,7 +285,9 @@ public final class TriedTest {
         SoupWall x = new SoupWall();
         Check.due("m 0", SoupWall.OUTSIDE, x.fits(0, 0));
         Check.due("m 7", SoupWall.OUTSIDE, x.fits(7, 0));
-        Check.due("i -2", SoupWall.OUTSIDE, x.fits(1, -2));
+        Check.due("m 0, i below NONE", SoupWall.OUTSIDE, x.fits(0, -2));
+        Check.due("there is no i-th below NONE", SoupWall.NONE, x.fits(1, -2));
+        Check.due("there is no i-th below NONE", SoupWall.NONE, x.fits(6, -2147483648));
         Check.due("all of 6", 64, x.fits(6, SoupWall.NONE));
         Check.due("the last of 6", 63, x.fits(6, 63));
         Check.due("not so many", SoupWall.NONE, x.fits(6, 64));

@@ -631,7 +631,7 @@ public final class PlainWall {
     }
 
     public int fits(int m, int i) {
-        if (m < 1 || m > 6 || i < -1) {
+        if (m < 1 || m > 6) {
             return OUTSIDE;
         }
         List<Integer> all = new ArrayList<>();
@@ -646,7 +646,7 @@ public final class PlainWall {
                 all.add(row);
             }
         }
-        return i == NONE ? all.size() : i < all.size() ? all.get(i) : NONE;
+        return i == NONE ? all.size() : i >= 0 && i < all.size() ? all.get(i) : NONE;
     }
 
     public int tear() {
