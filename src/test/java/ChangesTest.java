@@ -88,33 +88,9 @@ public final class ChangesTest {
         Check.due("no kinds", SoupWall.NOT, Check.wallOf("column 1 20 30 3;").drift(1));
     }
 
-    /** The same days, drawn here and sold by buy. */
     private static void driftByHand() {
         for (int start = 0; start < 300; start++) {
-            int seed = start * 7158279;
-            SoupWall x = Check.wallOf(WALL);
-            SoupWall y = Check.wallOf(WALL);
-            long drawn = seed;
-            int made = 0;
-            for (int day = 0; day < 9; day++) {
-                drawn = next(drawn);
-                y.damp((int) (drawn / 65536 % 4));
-                for (int i = 0; i < 4; i++) {
-                    long c = next(drawn);
-                    long k = next(c);
-                    drawn = next(k);
-                    int paid = y.buy((int) (c / 65536 % 3), (int) (k / 65536 % 3), (int) (drawn / 65536 % 6) + 1);
-                    made += paid == SoupWall.NOT ? 0 : 1;
-                }
-            }
-            y.seed((int) drawn);
-            x.seed(seed);
-            Check.due("drift(9) from " + seed, made, x.drift(9));
-            Check.holds("all is as sold by hand from " + seed, Check.allOf(x).equals(Check.allOf(y)));
+            Days.byHand(WALL, start * 7158279, 9);
         }
-    }
-
-    private static long next(long seed) {
-        return (seed * 1103515245L + 12345L) % 2147483648L;
     }
 }

@@ -8,7 +8,8 @@ import java.util.Random;
 /** All promises at once: runs of drawn calls, each answered as PlainWall answers it. */
 public final class ModelTest {
     private static final int RUNS = 1500;
-    private static final int CALLS = 400;
+    /** An object is used for 512 calls at most, of which a last text may take some fifty. */
+    private static final int CALLS = 450;
     private static final int[] ODD = {Integer.MIN_VALUE, -1000000001, -2, -1, 0, 1, 5, 6, 60, 61, 99, 100, Integer.MAX_VALUE};
 
     private final Random random;
@@ -36,7 +37,7 @@ public final class ModelTest {
 
     private boolean agrees(Method[] methods) throws Exception {
         boolean same = feedAndWall(false);
-        for (int i = 0; i < CALLS && same; i++) {
+        while (calls.size() < CALLS && same) {
             if (random.nextInt(60) == 0) {
                 same = feedAndWall(random.nextInt(3) > 0);
             } else {

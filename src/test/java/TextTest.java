@@ -48,107 +48,107 @@ public final class TextTest {
     }
 
     private static void goodTexts() {
-        good("", 0, 0, 0);
-        good("    ", 0, 0, 0);
-        good("coin1 20 3;", 1, 0, 0);
-        good("  coin 1  20 3  ;  slug 7 ;  ", 1, 0, 1);
-        good("coin 001 099 060;column 99 1 99 0;slug 99;slug 1;", 1, 1, 2);
-        good("column 1 5 5 60;kick0lr;", 0, 1, 0);
-        good("column 1 5 5 60;kick 000 rrrrrr;column 2 5 5 0;kick 1l;", 0, 2, 0);
-        good("coin 99 10 0;coin 1 99 60;", 2, 0, 0);
-        good(times("coin 1 20 0;", 5) + times("column 1 5 6 1;", 5) + times("slug 5;", 5), 5, 5, 5);
+        Texts.good("", 0, 0, 0);
+        Texts.good("    ", 0, 0, 0);
+        Texts.good("coin1 20 3;", 1, 0, 0);
+        Texts.good("  coin 1  20 3  ;  slug 7 ;  ", 1, 0, 1);
+        Texts.good("coin 001 099 060;column 99 1 99 0;slug 99;slug 1;", 1, 1, 2);
+        Texts.good("column 1 5 5 60;kick0lr;", 0, 1, 0);
+        Texts.good("column 1 5 5 60;kick 000 rrrrrr;column 2 5 5 0;kick 1l;", 0, 2, 0);
+        Texts.good("coin 99 10 0;coin 1 99 60;", 2, 0, 0);
+        Texts.good(times("coin 1 20 0;", 5) + times("column 1 5 6 1;", 5) + times("slug 5;", 5), 5, 5, 5);
     }
 
     private static void cannotStand() {
-        bad("soup 1;", 1, 0);
-        bad(" coins 1 20 3;", 1, 1);
-        bad("coi", 1, 0);
-        bad("Coin 1 20 3;", 1, 0);
-        bad("coiN 1 20 3;", 1, 0);
-        bad("coinslug 1;", 1, 0);
-        bad("coina 1 20 3;", 1, 0);
-        bad("coinz 1 20 3;", 1, 0);
-        bad("coin` 1 20 3;", 1, 4);
-        bad("coin{ 1 20 3;", 1, 4);
-        bad("coin 1/ 20 3;", 1, 6);
-        bad("coin 1: 20 3;", 1, 6);
-        bad(";", 1, 0);
-        bad("slug 5;;", 1, 7);
-        bad("5;", 1, 0);
-        bad("coin", 1, 4);
-        bad("coin  ", 1, 6);
-        bad("coin 1 20 3", 1, 11);
-        bad("coin 1 20 3   ", 1, 14);
-        bad("coin 1 20;", 1, 9);
-        bad("coin 1 x 3;", 1, 7);
-        bad("coin 1 20 3 4;", 1, 12);
-        bad("coin 1 20 3 x;", 1, 12);
-        bad("coin 1,20 3;", 1, 6);
-        bad("coin -1 20 3;", 1, 5);
-        bad("slug\t5;", 1, 4);
-        bad("slug 5;" + (char) 233, 1, 7);
-        bad("slug 5" + (char) 0, 1, 6);
-        bad("column 1 5 6 1;kick lr;", 1, 20);
-        bad("column 1 5 6 1;kick 0;", 1, 21);
-        bad("column 1 5 6 1;kick 0 1;", 1, 22);
-        bad("column 1 5 6 1;kick 0 lR;", 1, 23);
-        bad("column 1 5 6 1;kick 0 l r;", 1, 24);
-        bad("column 1 5 6 1;kick 0 l 0;", 1, 24);
-        bad("column 1 5 6 1;kick 0 l", 1, 23);
+        Texts.bad("soup 1;", 1, 0);
+        Texts.bad(" coins 1 20 3;", 1, 1);
+        Texts.bad("coi", 1, 0);
+        Texts.bad("Coin 1 20 3;", 1, 0);
+        Texts.bad("coiN 1 20 3;", 1, 0);
+        Texts.bad("coinslug 1;", 1, 0);
+        Texts.bad("coina 1 20 3;", 1, 0);
+        Texts.bad("coinz 1 20 3;", 1, 0);
+        Texts.bad("coin` 1 20 3;", 1, 4);
+        Texts.bad("coin{ 1 20 3;", 1, 4);
+        Texts.bad("coin 1/ 20 3;", 1, 6);
+        Texts.bad("coin 1: 20 3;", 1, 6);
+        Texts.bad(";", 1, 0);
+        Texts.bad("slug 5;;", 1, 7);
+        Texts.bad("5;", 1, 0);
+        Texts.bad("coin", 1, 4);
+        Texts.bad("coin  ", 1, 6);
+        Texts.bad("coin 1 20 3", 1, 11);
+        Texts.bad("coin 1 20 3   ", 1, 14);
+        Texts.bad("coin 1 20;", 1, 9);
+        Texts.bad("coin 1 x 3;", 1, 7);
+        Texts.bad("coin 1 20 3 4;", 1, 12);
+        Texts.bad("coin 1 20 3 x;", 1, 12);
+        Texts.bad("coin 1,20 3;", 1, 6);
+        Texts.bad("coin -1 20 3;", 1, 5);
+        Texts.bad("slug\t5;", 1, 4);
+        Texts.bad("slug 5;" + (char) 233, 1, 7);
+        Texts.bad("slug 5" + (char) 0, 1, 6);
+        Texts.bad("column 1 5 6 1;kick lr;", 1, 20);
+        Texts.bad("column 1 5 6 1;kick 0;", 1, 21);
+        Texts.bad("column 1 5 6 1;kick 0 1;", 1, 22);
+        Texts.bad("column 1 5 6 1;kick 0 lR;", 1, 23);
+        Texts.bad("column 1 5 6 1;kick 0 l r;", 1, 24);
+        Texts.bad("column 1 5 6 1;kick 0 l 0;", 1, 24);
+        Texts.bad("column 1 5 6 1;kick 0 l", 1, 23);
     }
 
     private static void numbersOff() {
-        bad("coin 0 20 3;", 2, 5);
-        bad("coin 100 20 3;", 2, 5);
-        bad("coin 1 9 3;", 2, 7);
-        bad("coin 1 100 3;", 2, 7);
-        bad("coin 1 20 61;", 2, 10);
-        bad("coin 0001 20 3;", 2, 5);
-        bad("coin 99999999999999999999 20 3;", 2, 5);
-        bad("coin 4294967297 20 3;", 2, 5);
-        bad("column 0 5 6 1;", 2, 7);
-        bad("column 100 5 6 1;", 2, 7);
-        bad("column 1 0 6 1;", 2, 9);
-        bad("column 1 100 6 1;", 2, 9);
-        bad("column 1 5 100 1;", 2, 11);
-        bad("column 1 5 6 61;", 2, 13);
-        bad("column 1 5 6 0000;", 2, 13);
-        bad("slug 0;", 2, 5);
-        bad("slug 100;", 2, 5);
-        bad("kick 0 l;", 2, 5);
-        bad("kick 0", 2, 5);
-        bad("column 1 5 6 1;kick 1 l;", 2, 20);
-        bad("column 1 5 6 1;kick 0000 l;", 2, 20);
-        bad("coin 1 20 1;kick 0 l;column 1 5 6 1;", 2, 17);
+        Texts.bad("coin 0 20 3;", 2, 5);
+        Texts.bad("coin 100 20 3;", 2, 5);
+        Texts.bad("coin 1 9 3;", 2, 7);
+        Texts.bad("coin 1 100 3;", 2, 7);
+        Texts.bad("coin 1 20 61;", 2, 10);
+        Texts.bad("coin 0001 20 3;", 2, 5);
+        Texts.bad("coin 99999999999999999999 20 3;", 2, 5);
+        Texts.bad("coin 4294967297 20 3;", 2, 5);
+        Texts.bad("column 0 5 6 1;", 2, 7);
+        Texts.bad("column 100 5 6 1;", 2, 7);
+        Texts.bad("column 1 0 6 1;", 2, 9);
+        Texts.bad("column 1 100 6 1;", 2, 9);
+        Texts.bad("column 1 5 100 1;", 2, 11);
+        Texts.bad("column 1 5 6 61;", 2, 13);
+        Texts.bad("column 1 5 6 0000;", 2, 13);
+        Texts.bad("slug 0;", 2, 5);
+        Texts.bad("slug 100;", 2, 5);
+        Texts.bad("kick 0 l;", 2, 5);
+        Texts.bad("kick 0", 2, 5);
+        Texts.bad("column 1 5 6 1;kick 1 l;", 2, 20);
+        Texts.bad("column 1 5 6 1;kick 0000 l;", 2, 20);
+        Texts.bad("coin 1 20 1;kick 0 l;column 1 5 6 1;", 2, 17);
     }
 
     private static void tooMany() {
-        bad(times("coin 1 20 0;", 6), 3, 60);
-        bad(times("coin 1 20 0;", 5) + " coin", 3, 61);
-        bad(times("coin 1 20 0;", 5) + "coin x", 3, 60);
-        bad(times("coin 1 20 0;", 5) + "coinx", 1, 60);
-        bad(times("column 1 5 6 1;", 6), 3, 75);
-        bad(times("slug 5;", 6), 3, 35);
+        Texts.bad(times("coin 1 20 0;", 6), 3, 60);
+        Texts.bad(times("coin 1 20 0;", 5) + " coin", 3, 61);
+        Texts.bad(times("coin 1 20 0;", 5) + "coin x", 3, 60);
+        Texts.bad(times("coin 1 20 0;", 5) + "coinx", 1, 60);
+        Texts.bad(times("column 1 5 6 1;", 6), 3, 75);
+        Texts.bad(times("slug 5;", 6), 3, 35);
     }
 
     private static void clashes() {
-        bad("column 1 6 5 1;", 4, 11);
-        bad("column 1 6 5", 4, 11);
-        bad("column 1 6 005 x", 4, 11);
-        bad("column 1 5 6 1;kick 0 l;kick 0 l;", 4, 29);
-        bad("column 1 5 6 1;kick 0 l;kick 00 x", 4, 29);
-        bad("column 1 5 6 1;kick 0 lrlrlrl;", 4, 22);
-        bad("column 1 5 6 1;kick 0 lrx;", 4, 22);
-        bad("column 1 5 6 1;kick 0 coin", 4, 22);
-        bad("column 1 5 6 1;kick 0 la;", 4, 22);
-        bad("column 1 5 6 1;kick 0 zr;", 4, 22);
+        Texts.bad("column 1 6 5 1;", 4, 11);
+        Texts.bad("column 1 6 5", 4, 11);
+        Texts.bad("column 1 6 005 x", 4, 11);
+        Texts.bad("column 1 5 6 1;kick 0 l;kick 0 l;", 4, 29);
+        Texts.bad("column 1 5 6 1;kick 0 l;kick 00 x", 4, 29);
+        Texts.bad("column 1 5 6 1;kick 0 lrlrlrl;", 4, 22);
+        Texts.bad("column 1 5 6 1;kick 0 lrx;", 4, 22);
+        Texts.bad("column 1 5 6 1;kick 0 coin", 4, 22);
+        Texts.bad("column 1 5 6 1;kick 0 la;", 4, 22);
+        Texts.bad("column 1 5 6 1;kick 0 zr;", 4, 22);
     }
 
     private static void leastFaultOfAByte() {
-        bad("column 1 6 0 1;", 2, 11);
-        bad("column 1 6 0005 1;", 2, 11);
-        bad("coin 1 20 3 4444;", 1, 12);
-        bad("column 1 5 6 1;kick 0 l;kick 0000 l;", 2, 29);
+        Texts.bad("column 1 6 0 1;", 2, 11);
+        Texts.bad("column 1 6 0005 1;", 2, 11);
+        Texts.bad("coin 1 20 3 4444;", 1, 12);
+        Texts.bad("column 1 5 6 1;kick 0 l;kick 0000 l;", 2, 29);
     }
 
     private static void whatAWallDoes() {
@@ -233,25 +233,6 @@ public final class TextTest {
         was[3] = "1";
         was[was.length - 1] = "41";
         return java.util.Arrays.equals(was, is);
-    }
-
-    private static void good(String text, int kinds, int columns, int slugs) {
-        SoupWall x = new SoupWall();
-        Check.feed(x, text);
-        Check.due("wall() of '" + text + "'", columns, x.wall());
-        Check.due("fault() of '" + text + "'", SoupWall.NONE, x.fault());
-        Check.due("kinds of '" + text + "'", kinds, x.told(0));
-        Check.due("columns of '" + text + "'", columns, x.told(1));
-        Check.due("slugs of '" + text + "'", slugs, x.told(2));
-    }
-
-    private static void bad(String text, int fault, int at) {
-        SoupWall x = new SoupWall();
-        Check.feed(x, text);
-        Check.due("wall() of '" + text + "'", -10 - fault, x.wall());
-        Check.due("fault() of '" + text + "'", at, x.fault());
-        Check.due("kinds of '" + text + "'", 0, x.told(0));
-        Check.due("columns of '" + text + "'", 0, x.told(1));
     }
 
     private static String times(String clause, int n) {

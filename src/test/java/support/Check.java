@@ -1,14 +1,27 @@
 /** What the tests share: it counts and prints answers that are not due, and feeds texts. */
 final class Check {
     private static int wrong = 0;
+    private static int count = 0;
+    private static String heading = "";
 
     private Check() {
     }
 
+    /** What the next answers are due for: it is printed ahead of those that are wrong. */
+    static void under(String newHeading) {
+        heading = newHeading;
+    }
+
+    /** How many answers have been looked at. */
+    static int count() {
+        return count;
+    }
+
     static void due(String call, long want, long got) {
+        count++;
         if (got != want) {
             wrong++;
-            System.out.println(call + " answered " + got + ", due is " + want);
+            System.out.println(heading + call + " answered " + got + ", due is " + want);
         }
     }
 
@@ -49,17 +62,29 @@ final class Check {
 
     /** All that told, coin, column, fault and the seed answer, in one text: to see that nothing changed. */
     static String allOf(SoupWall x) {
+        return stateOf(x) + x.fault();
+    }
+
+    /** The same, but for the fault. */
+    static String stateOf(SoupWall x) {
         StringBuilder all = new StringBuilder();
         for (int what = 0; what <= 11; what++) {
             all.append(x.told(what)).append(' ');
         }
-        for (int i = 0; i < 5; i++) {
+        int kinds = x.told(0);
+        for (int k = 0; k < kinds; k++) {
+            for (int what = 0; what <= 4; what++) {
+                all.append(x.coin(k, what)).append(' ');
+            }
+        }
+        int columns = x.told(1);
+        for (int c = 0; c < columns; c++) {
             for (int what = 0; what <= 8; what++) {
-                all.append(x.coin(i, what)).append(' ').append(x.column(i, what)).append(' ');
+                all.append(x.column(c, what)).append(' ');
             }
         }
         int seed = x.seed(0);
         x.seed(seed);
-        return all.append(seed).append(' ').append(x.fault()).toString();
+        return all.append(seed).append(' ').toString();
     }
 }
