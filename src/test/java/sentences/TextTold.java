@@ -230,6 +230,7 @@ final class TextTold {
         Texts.bad(COLUMN + "kick 0", 1, 21);
         Texts.bad(COLUMN + "kick 0 l", 1, 23);
         Texts.bad("slug 0", 2, 5);
+        shorterThanBefore();
         Doc.says(Doc.TERMS, "of these the least:");
         Texts.bad("slug 9 1000;", 1, 7);
         Texts.bad("slug 9 slug;", 1, 7);
@@ -240,6 +241,21 @@ final class TextTold {
         Texts.bad("column 1 6 0005 1;", 2, 11);
         Texts.bad("column 1 99 100 1;", 2, 12);
         Texts.bad(COLUMN + "kick 0 l;kick 0000 l;", 2, 29);
+    }
+
+    /** What an earlier text had behind the end of this one is not read. */
+    private static void shorterThanBefore() {
+        String text = "coin 1 20 3;" + COLUMN + "slug 9;kick 0 lr; ";
+        for (int length = 0; length < text.length(); length++) {
+            SoupWall x = Check.wallOf(text);
+            SoupWall y = new SoupWall();
+            Check.feed(x, text.substring(0, length));
+            Check.feed(y, text.substring(0, length));
+            Check.due("wall() of " + length + " bytes behind a longer text", y.wall(), x.wall());
+            Check.due("fault() of " + length + " bytes behind a longer text", y.fault(), x.fault());
+            char last = length == 0 ? ';' : text.charAt(length - 1);
+            Check.holds("a clause has its ';'", (y.fault() == SoupWall.NONE) == (last == ';'));
+        }
     }
 
     private static void faultOne() {
