@@ -45,6 +45,11 @@ final class Doc {
         }
     }
 
+    /** The public face, as Java has it. */
+    static String face() {
+        return between("\n```java\n", "\n```");
+    }
+
     private static void closeLatest() {
         if (checksBefore >= 0 && Check.count() == checksBefore) {
             Check.holds("something is looked at for these words", false);
